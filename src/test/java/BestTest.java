@@ -1,11 +1,17 @@
+import java.util.function.Supplier;
+
 /** Promises 16 to 21: best, when, far, farthest, swaps, simplest. */
 public final class BestTest {
     private static final Check CHECK = new Check();
     private static final int[] POSTURES = {0, 4, 9};
 
     public static void main(String[] args) {
-        bestAsReallyTried(1);
-        bestAsReallyTried(3);
+        bestAsReallyTried(BestTest::amid, 1);
+        bestAsReallyTried(BestTest::amid, 3);
+        bestAsReallyTried(() -> begun(441023, 17, 117, 6, 0, 4, 1), 2);
+        bestAsReallyTried(() -> begun(691966, 13, 244, 8, 1, 2, 2), 1);
+        bestAsReallyTried(() -> begun(628023, 14, 218, 8, 1, 2, 1, -63), 1);
+        bestEachTimeAnew();
         bestOfLikeOnes();
         bestWithoutALaw();
         whenByWorth();
@@ -15,6 +21,7 @@ public final class BestTest {
         swapsAsReallyGone();
         swapsOfRest();
         simplestAsReallyRuled();
+        simplestAtItsEdges();
         simplestNone();
         wrongInputs();
         CHECK.end();
@@ -30,11 +37,18 @@ public final class BestTest {
         return x;
     }
 
-    private static void bestAsReallyTried(int m) {
+    private static SwingYard begun(int place, int ticks, int... numbers) {
+        SwingYard x = Check.swing(numbers);
+        x.begin(place);
+        x.tick(ticks);
+        return x;
+    }
+
+    private static void bestAsReallyTried(Supplier<SwingYard> made, int m) {
         int best = -1;
         int[] row = new int[5];
         for (int all = 0; all < 243; all++) {
-            SwingYard really = amid();
+            SwingYard really = made.get();
             int[] tried = new int[5];
             int rest = all;
             for (int i = 4; i >= 0; i--) {
@@ -54,7 +68,7 @@ public final class BestTest {
                 row = tried;
             }
         }
-        SwingYard x = amid();
+        SwingYard x = made.get();
         CHECK.leavesAll(x, "best(" + m + ", -1)", y -> y.best(m, -1));
         CHECK.due("best(" + m + ", -1)", x.best(m, -1), best);
         for (int i = 0; i < 5; i++) {
@@ -74,6 +88,12 @@ public final class BestTest {
         for (int i = 0; i < 5; i++) {
             CHECK.due("best(1, " + i + "), LEAN", x.best(1, i), 9);
         }
+    }
+
+    private static void bestEachTimeAnew() {
+        SwingYard x = Check.swing(400, 1, 0, 0, 9, 1);
+        CHECK.due("best(12, -1) is higher", x.best(12, -1) > 4460 ? 1 : 0, 1);
+        CHECK.due("best(1, -1) behind it", x.best(1, -1), 4460);
     }
 
     private static void bestWithoutALaw() {
@@ -139,6 +159,22 @@ public final class BestTest {
         x.push(0, 1000);
         x.tick(1);
         CHECK.due("far(0), PULL 4: 5 ticks", x.far(0), 2400);
+        // 50 + 200 * 100 * 100 / 2000000 = 51: 11 ticks, where 50 would be 10
+        x = Check.swing(200, 1, 0);
+        x.push(0, 1000);
+        x.begin(100000);
+        x.tick(1);
+        CHECK.due("far(0), PULL 1: 11 ticks", x.far(0), 21200);
+        // 99999 is 99 thousands: 10 ticks
+        x.rest();
+        x.push(0, 599);
+        x.begin(99900);
+        x.tick(1);
+        CHECK.told(x, "just below", 100000, 100);
+        x.begin(99899);
+        x.tick(1);
+        CHECK.told(x, "just below", 99999, 100);
+        CHECK.due("far(0), PULL 1: 10 ticks", x.far(0), 20199);
         // LENGTH is that of its POSTURE; -1999 by 1000 is -1
         x = Check.swing(50, 9, 0, 4, 9);
         Check.law(x, "9");
@@ -224,10 +260,10 @@ public final class BestTest {
         int[][] swings = {
             {200, 2, 1, 2, 3, 0, 0, 200}, {50, 9, 0, 4, 9, 0, 0, 200}, {120, 5, 3, 3, 2, 10, 3, 100},
             {400, 1, 0, 4, 1, 0, 0, 200}, {100, 3, 0, 2, 2, 0, 0, 200}, {80, 2, 5, 4, 3, 0, 0, 200},
-            {90, 4, 1, 1, 1, 5, 0, 200}};
+            {90, 4, 1, 1, 1, 5, 0, 200}, {374, 3, 26, 3, 7, 90, 0, 200}};
         int found = 0;
         for (int[] numbers : swings) {
-            for (int n : new int[] {1, 20, 40, 90, 150, 300}) {
+            for (int n : new int[] {1, 20, 40, 41, 42, 43, 44, 45, 54, 90, 150, 300}) {
                 int want = -1;
                 for (int s = 20; s >= 0; s--) {
                     want = pumps(numbers, 900, s, n) ? s : want;
@@ -248,6 +284,23 @@ public final class BestTest {
         Check.law(x, "9*(v>0)");
         x.tick(77);
         CHECK.due("simplest(100) from elsewhere", x.simplest(100), want);
+    }
+
+    private static void simplestAtItsEdges() {
+        CHECK.due("simplest(54) is 20", Check.swing(374, 3, 26, 3, 7, 90).simplest(54), 20);
+        // pushed up and down: turns at 105130, 302248 and 600000, which is not higher
+        SwingYard x = Check.swing(400, 1, 0, 0);
+        x.push(0, 3000);
+        x.push(1, -1497);
+        CHECK.due("simplest(10), as high as that", x.simplest(10), -1);
+        x.rest();
+        x.push(0, 3000);
+        x.push(1, -1496);
+        CHECK.due("simplest(10), higher by 1", x.simplest(10), 0);
+        CHECK.due("simplest(6)", x.simplest(6), 0);
+        CHECK.due("simplest(5): not turned yet", x.simplest(5), -1);
+        x.tick(1);
+        CHECK.due("simplest(10), TICKS are as they are", x.simplest(10), -1);
     }
 
     private static void simplestNone() {

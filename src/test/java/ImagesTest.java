@@ -7,6 +7,7 @@ public final class ImagesTest {
         twoImages();
         statusIsNotKept();
         turnsAreKept();
+        dropsAreKept();
         wayIsKept();
         status();
         digestOfANewOne();
@@ -100,6 +101,17 @@ public final class ImagesTest {
         for (int i = 0; i < 40; i++) {
             CHECK.due("turn(" + i + ") behind from", x.turn(i), turns[i]);
         }
+    }
+
+    private static void dropsAreKept() {
+        SwingYard x = Check.swing(400, 1, 0);
+        x.push(0, 30000);
+        x.begin(990000);
+        x.tick(1);
+        x.image(1);
+        x.begin(0);
+        x.from(1);
+        CHECK.told(x, "drops behind from", 1000000, 0, 0, 1, 1000000, 1, 1, 0, 1, 17525);
     }
 
     /** Between two ticks the way it went is kept too: the turn that comes is seen. */

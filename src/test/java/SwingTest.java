@@ -12,6 +12,7 @@ public final class SwingTest {
         quickAndStrength();
         turning();
         turningPastRest();
+        turningByOne();
         slackRopes();
         noTurnBehindADrop();
         besideIt();
@@ -191,6 +192,29 @@ public final class SwingTest {
         CHECK.told(x, "begun anew", -150, -50, 0, 1, 100, 1, 0);
     }
 
+    private static void turningByOne() {
+        SwingYard x = Check.swing(400, 1, 0);
+        x.push(0, 1);
+        x.push(1, -2);
+        x.push(3, 2);
+        x.tick(1);
+        CHECK.told(x, "speed 1", 1, 1, 0, 1, 0, 1, 0);
+        x.tick(1);
+        CHECK.told(x, "speed -1", 0, -1, 0, 0, 0, 2, 1);
+        x.tick(1);
+        CHECK.told(x, "speed -1 again", -1, -1, 0, 1, 0, 3, 1);
+        x.tick(1);
+        CHECK.told(x, "speed 1 again", 0, 1, 0, 0, 0, 4, 2);
+        x.begin(1);
+        x.rest();
+        x.push(0, -2);
+        x.push(1, 4);
+        x.tick(1);
+        CHECK.told(x, "from 1 to -1", -1, -2, 0, 0, 1, 1, 0);
+        x.tick(1);
+        CHECK.told(x, "from -1 to 1", 1, 2, 0, 0, 1, 2, 1);
+    }
+
     private static void slackRopes() {
         SwingYard x = Check.swing(400, 1, 0);
         x.push(0, 30000);
@@ -238,10 +262,16 @@ public final class SwingTest {
         x.tick(1);
         CHECK.told(x, "BESIDE 50", 82610, -11390, 0, 2, 100000, 2, 0, 0, 0, 0, 14250, 9250);
         x.put(2, 10);
+        x.image(0);
         x.tick(1);
         // given 50 * (14250 - 82610) / 1000 = -3418; v -11390 - 826 - 3418 = -15634, less -156
         // w 9250 - 570 + 3418 = 12098, less 120
         CHECK.told(x, "LOSS on both", 67132, -15478, 0, 3, 100000, 3, 0, 0, 0, 0, 26228, 11978);
+        x.from(0);
+        x.put(2, 50);
+        x.tick(1);
+        // v less -781, w less 604
+        CHECK.told(x, "LOSS 50 on both", 67757, -14853, 0, 3, 100000, 3, 0, 0, 0, 0, 25744, 11494);
     }
 
     private static void otherAtTheBar() {
