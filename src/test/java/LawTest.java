@@ -186,6 +186,11 @@ public final class LawTest {
         worth("4--3", 7);
         worth(" 1 + 2 * ( 3 ) ", 7);
         worth("((((((((8))))))))", 8);
+        // 60 characters that are a part each
+        worth("-1" + "+1".repeat(29), 9);
+        worth("-8" + "+1".repeat(14) + "-1".repeat(14) + "+9", 1);
+        worth("-".repeat(58) + "7", 7);
+        worth("1|1&1<1+1*(1|1&1<1+1*(1|1&1<1+1*(1|1&1<1+1*(1|0+6))))", 1);
         // longs wrap: 999999 * 999999 * 999999 * 10 is beyond the greatest
         worth("999999*999999*999999*9>0", 1);
         worth("999999*999999*999999*10<0", 1);
