@@ -6,8 +6,8 @@ public final class BestTest {
     private static final int[] POSTURES = {0, 4, 9};
 
     public static void main(String[] args) {
-        bestAsReallyTried(BestTest::amid, 1);
-        bestAsReallyTried(BestTest::amid, 3);
+        bestAsReallyTried(() -> Check.amid(20), 1);
+        bestAsReallyTried(() -> Check.amid(20), 3);
         bestAsReallyTried(() -> begun(441023, 17, 117, 6, 0, 4, 1), 2);
         bestAsReallyTried(() -> begun(691966, 13, 244, 8, 1, 2, 2), 1);
         bestAsReallyTried(() -> begun(628023, 14, 218, 8, 1, 2, 1, -63), 1);
@@ -25,16 +25,6 @@ public final class BestTest {
         simplestNone();
         wrongInputs();
         CHECK.end();
-    }
-
-    private static SwingYard amid() {
-        SwingYard x = Check.swing(120, 3, 2, 3, 2, 15, 7, 90);
-        Check.law(x, "9*(a*v<0)+(u>200000&t>3)");
-        x.push(22, 9000);
-        x.push(30, -12000);
-        x.begin(250000);
-        x.tick(20);
-        return x;
     }
 
     private static SwingYard begun(int place, int ticks, int... numbers) {
@@ -97,7 +87,7 @@ public final class BestTest {
     }
 
     private static void bestWithoutALaw() {
-        SwingYard x = amid();
+        SwingYard x = Check.amid(20);
         int best = x.best(4, -1);
         int third = x.best(4, 2);
         Check.law(x, "1+");
@@ -109,7 +99,7 @@ public final class BestTest {
         int[] forces = {4000, -4000, 30000, -30000, 0};
         for (int force : forces) {
             for (int j = 1; j <= 40; j += 13) {
-                SwingYard x = amid();
+                SwingYard x = Check.amid(20);
                 int best = Integer.MIN_VALUE;
                 int at = -1;
                 int brakes = 0;
@@ -185,8 +175,8 @@ public final class BestTest {
     }
 
     private static void farAsReallyGone() {
-        SwingYard x = amid();
-        SwingYard really = amid();
+        SwingYard x = Check.amid(20);
+        SwingYard really = Check.amid(20);
         for (int i = 0; i <= 120; i++) {
             CHECK.due("far(" + i + ")", x.far(i), really.far(0));
             really.tick(1);
@@ -195,7 +185,7 @@ public final class BestTest {
     }
 
     private static void farthestByFar() {
-        SwingYard x = amid();
+        SwingYard x = Check.amid(20);
         int best = Integer.MIN_VALUE;
         int at = -1;
         for (int n = 0; n <= 120; n++) {
@@ -213,8 +203,8 @@ public final class BestTest {
     private static void swapsAsReallyGone() {
         int begun = 0;
         for (int n = 1; n <= 90; n += n < 30 ? 1 : 9) {
-            SwingYard x = amid();
-            SwingYard really = amid();
+            SwingYard x = Check.amid(20);
+            SwingYard really = Check.amid(20);
             int greatest = -1;
             int first = 0;
             for (int i = 1; i <= n; i++) {
@@ -316,7 +306,7 @@ public final class BestTest {
     }
 
     private static void wrongInputs() {
-        SwingYard x = amid();
+        SwingYard x = Check.amid(20);
         int[] far = {Integer.MIN_VALUE, Integer.MAX_VALUE};
         for (int wrong : new int[] {0, 13, -1, far[0], far[1]}) {
             CHECK.bad(x, "best(" + wrong + ", 0)", y -> y.best(wrong, 0), -2);

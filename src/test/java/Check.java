@@ -70,4 +70,15 @@ final class Check {
         }
         return x;
     }
+
+    /** In the middle of things: a law, pushes gone by or to come, the other one, and turns behind it. */
+    static SwingYard amid(int ticks) {
+        SwingYard x = swing(120, 3, 2, 3, 2, 15, 7, 90);
+        law(x, "9*(a*v<0)+(u>200000&t>3)");
+        x.push(22, 9000);
+        x.push(40, -12000);
+        x.begin(250000);
+        x.tick(ticks);
+        return x;
+    }
 }

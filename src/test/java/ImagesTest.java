@@ -16,16 +16,6 @@ public final class ImagesTest {
         CHECK.end();
     }
 
-    private static SwingYard amid() {
-        SwingYard x = Check.swing(120, 3, 2, 3, 2, 15, 7, 90);
-        Check.law(x, "9*(a*v<0)+(u>200000&t>3)");
-        x.push(25, 9000);
-        x.push(40, -12000);
-        x.begin(250000);
-        x.tick(60);
-        return x;
-    }
-
     private static void changeAll(SwingYard x) {
         for (int i = 0; i < 8; i++) {
             x.put(i, i == 5 ? -40 : i == 0 || i == 7 ? 333 : 3);
@@ -38,8 +28,8 @@ public final class ImagesTest {
     }
 
     private static void goesOnFromAnImage() {
-        SwingYard x = amid();
-        SwingYard twin = amid();
+        SwingYard x = Check.amid(60);
+        SwingYard twin = Check.amid(60);
         long then = x.digest();
         CHECK.due("image(0)", x.image(0), 1);
         CHECK.due("digest() behind image", x.digest(), then);
@@ -56,7 +46,7 @@ public final class ImagesTest {
     }
 
     private static void twoImages() {
-        SwingYard x = amid();
+        SwingYard x = Check.amid(60);
         long first = x.digest();
         x.image(1);
         changeAll(x);
@@ -76,7 +66,7 @@ public final class ImagesTest {
     }
 
     private static void statusIsNotKept() {
-        SwingYard x = amid();
+        SwingYard x = Check.amid(60);
         x.tick(0);
         x.image(0);
         x.tick(0);
@@ -192,7 +182,7 @@ public final class ImagesTest {
     }
 
     private static void wrongInputs() {
-        SwingYard x = amid();
+        SwingYard x = Check.amid(60);
         for (int wrong : new int[] {-1, 2, Integer.MIN_VALUE, Integer.MAX_VALUE}) {
             CHECK.bad(x, "image(" + wrong + ")", y -> y.image(wrong), -2);
             CHECK.bad(x, "from(" + wrong + ")", y -> y.from(wrong), -2);

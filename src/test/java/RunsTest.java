@@ -13,17 +13,6 @@ public final class RunsTest {
         CHECK.end();
     }
 
-    /** In the middle of things: a law, pushes to come, the other one, and turns behind it. */
-    private static SwingYard amid() {
-        SwingYard x = Check.swing(120, 3, 2, 3, 2, 15, 7, 90);
-        Check.law(x, "9*(a*v<0)+(u>200000&t>3)");
-        x.push(25, 9000);
-        x.push(40, -12000);
-        x.begin(250000);
-        x.tick(20);
-        return x;
-    }
-
     private static void peakByHand() {
         SwingYard x = Check.swing(50, 9, 0);
         x.begin(50);
@@ -38,7 +27,7 @@ public final class RunsTest {
 
     private static void peakAndGainAsReallyGone() {
         for (int n = 1; n <= 120; n += n < 10 ? 1 : 13) {
-            SwingYard x = amid();
+            SwingYard x = Check.amid(20);
             int run = n;
             CHECK.leavesAll(x, "peak(" + n + ")", y -> y.peak(run));
             CHECK.leavesAll(x, "gain(" + n + ")", y -> y.gain(run));
@@ -46,7 +35,7 @@ public final class RunsTest {
             int turns = 0;
             int first = 0;
             int last = 0;
-            SwingYard really = amid();
+            SwingYard really = Check.amid(20);
             for (int i = 0; i < n; i++) {
                 int before = really.told(6);
                 really.tick(1);
@@ -75,8 +64,8 @@ public final class RunsTest {
     private static void worthAsReallyPushed() {
         int seen = 0;
         for (int i = 0; i < 60; i += 3) {
-            SwingYard x = amid();
-            SwingYard pushed = amid();
+            SwingYard x = Check.amid(20);
+            SwingYard pushed = Check.amid(20);
             pushed.push(20 + i, -7000);
             int want = pushed.peak(60) - x.peak(60);
             seen += want != 0 ? 1 : 0;
@@ -85,8 +74,8 @@ public final class RunsTest {
             CHECK.due("worth(" + i + ", -7000, 60)", x.worth(i, -7000, 60), want);
         }
         CHECK.due("some are worth something", seen > 3 ? 1 : 0, 1);
-        CHECK.due("worth(60, 7000, 60): too late", amid().worth(60, 7000, 60), 0);
-        CHECK.due("worth(5, 0, 60): no force", amid().worth(5, 0, 60), 0);
+        CHECK.due("worth(60, 7000, 60): too late", Check.amid(20).worth(60, 7000, 60), 0);
+        CHECK.due("worth(5, 0, 60): no force", Check.amid(20).worth(5, 0, 60), 0);
         SwingYard rest = Check.swing(400, 1, 0);
         CHECK.due("worth(0, 100, 1)", rest.worth(0, 100, 1), 100);
         CHECK.due("worth(0, -30000, 1)", rest.worth(0, -30000, 1), 30000);
@@ -139,7 +128,7 @@ public final class RunsTest {
     }
 
     private static void wrongInputs() {
-        SwingYard x = amid();
+        SwingYard x = Check.amid(20);
         for (int wrong : new int[] {0, 501, -1, Integer.MIN_VALUE, Integer.MAX_VALUE}) {
             CHECK.bad(x, "peak(" + wrong + ")", y -> y.peak(wrong), -2);
             CHECK.bad(x, "gain(" + wrong + ")", y -> y.gain(wrong), -10000000);
