@@ -17,6 +17,8 @@ public final class SwingTest {
         noTurnBehindADrop();
         besideIt();
         otherAtTheBar();
+        otherJustAtTheBar(831907, 63, 82, 50, 1000000);
+        otherJustAtTheBar(824642, 104, 88, 32, -1000000);
         keptTurns();
         wrongInputs();
         CHECK.end();
@@ -285,6 +287,18 @@ public final class SwingTest {
         }
         CHECK.due("the other one comes to the bar", reached ? 1 : 0, 1);
         CHECK.due("its speed there", x.told(11), 0);
+    }
+
+    /** At the bar it is not beyond it: its speed stays, and is the whole way that it came. */
+    private static void otherJustAtTheBar(int place, int ticks, int lean, int give, int bar) {
+        SwingYard x = Check.swing(200, 2, 0, 0, 9, lean, give, 200);
+        Check.law(x, "9*(v>0)");
+        x.begin(place);
+        x.tick(ticks - 1);
+        int before = x.told(10);
+        x.tick(1);
+        CHECK.due("the other one's place", x.told(10), bar);
+        CHECK.due("the other one's speed", x.told(11), bar - before);
     }
 
     private static void keptTurns() {
