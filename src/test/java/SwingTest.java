@@ -301,18 +301,22 @@ public final class SwingTest {
         CHECK.due("the other one's speed", x.told(11), bar - before);
     }
 
+    /** Each tick is reached by an object of its own, as none is used for more than 512 calls. */
     private static void keptTurns() {
-        SwingYard x = Check.swing(50, 9, 1);
-        x.begin(700000);
         int[] heights = new int[200];
         int turns = 0;
-        for (int i = 0; i < 450; i++) {
-            x.tick(1);
-            if (x.told(6) > turns) {
-                heights[turns] = x.told(4);
+        for (int i = 1; i <= 450; i++) {
+            SwingYard y = Check.swing(50, 9, 1);
+            y.begin(700000);
+            y.tick(i);
+            if (y.told(6) > turns) {
+                heights[turns] = y.told(4);
                 turns++;
             }
         }
+        SwingYard x = Check.swing(50, 9, 1);
+        x.begin(700000);
+        x.tick(450);
         CHECK.due("more than 40 turns", turns > 40 ? 1 : 0, 1);
         CHECK.due("TURNS", x.told(6), turns);
         for (int i = 0; i < 40; i++) {
