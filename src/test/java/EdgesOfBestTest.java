@@ -139,6 +139,12 @@ public final class EdgesOfBestTest {
         when(x, -100, 5, 5, 1, 1);
         CHECK.due("worth(0)", x.worth(0, -100, 5), -100);
         CHECK.due("worth(1)", x.worth(1, -100, 5), 0);
+        CHECK.due("worth of 1 less", x.worth(0, -1, 1), -1);
+        when(x, -1, 1, 1, 0, 1);
+        CHECK.due("worth of nothing", x.worth(0, 0, 1), 0);
+        when(x, 0, 1, 1, 0, 0);
+        CHECK.due("worth of 1 more", x.worth(0, 1, 1), 1);
+        when(x, 1, 1, 1, 0, 0);
     }
 
     private static void brakesOfForty() {

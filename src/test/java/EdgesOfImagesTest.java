@@ -1,3 +1,7 @@
+import java.math.BigInteger;
+import java.util.Arrays;
+import java.util.function.Consumer;
+
 /**
  * Promises 1 and 22 to 25 at their edges: an IMAGE of a new object and of a full one, kept anew, not
  * kept; each refusal counted by its kind; a digest of what is empty and of what is full.
@@ -153,26 +157,45 @@ public final class EdgesOfImagesTest {
 
     /** Each part alone is changed behind an image, and is back again. */
     private static void whatIsKeptIsAllOfIt() {
-        String[][] changes = {
-            {"put", "0", "333"}, {"put", "1", "7"}, {"put", "2", "44"}, {"put", "3", "1"}, {"put", "4", "8"},
-            {"put", "5", "-15"}, {"put", "6", "8"}, {"put", "7", "333"}, {"write", "49"}, {"erase"},
-            {"push", "33", "7"}, {"rest"}, {"begin", "250000"}, {"tick", "1"}, {"tick", "77"}};
-        for (String[] change : changes) {
-            SwingYard x = Check.amid(20);
-            SwingYard twin = Check.amid(20);
-            x.image(0);
-            int[] numbers = new int[change.length - 1];
-            for (int i = 0; i < numbers.length; i++) {
-                numbers[i] = Integer.parseInt(change[i + 1]);
-            }
-            Calls.ask(x, change[0], numbers);
-            CHECK.due(change[0] + " changes something", x.digest() != twin.digest() ? 1 : 0, 1);
-            x.from(0);
-            for (int i = 0; i < 30; i++) {
-                CHECK.due("digest() behind " + change[0], x.digest(), twin.digest());
-                CHECK.due("fault() behind " + change[0], x.fault(), twin.fault());
-                CHECK.due("tick(3) behind " + change[0], x.tick(3), twin.tick(3));
-            }
+        int[][] numbers = {{0, 333}, {1, 7}, {2, 44}, {3, 1}, {4, 8}, {5, -15}, {6, 8}, {7, 333}};
+        for (int[] n : numbers) {
+            backAgain("put(" + n[0] + ")", x -> x.put(n[0], n[1]));
+        }
+        backAgain("a character more", x -> x.write('1'));
+        backAgain("no LAW", SwingYard::erase);
+        backAgain("a LAW as long", x -> Check.law(x, "0*(a*v<0)+(u>200000&t>3)"));
+        backAgain("another LAW", x -> Check.law(x, "k+"));
+        backAgain("a PUSH more", x -> x.push(33, 7));
+        backAgain("no PUSHES", SwingYard::rest);
+        backAgain("other ticks of PUSHES", x -> pushAnew(x, 23, 9000, 41, -12000));
+        backAgain("other forces of PUSHES", x -> pushAnew(x, 22, 900, 40, -1200));
+        backAgain("begun anew", x -> x.begin(250000));
+        backAgain("begun anew and turned", x -> {
+            x.begin(-777777);
+            x.tick(60);
+        });
+        backAgain("a tick more", x -> x.tick(1));
+        backAgain("500 ticks more", x -> x.tick(500));
+    }
+
+    private static void pushAnew(SwingYard x, int first, int force, int second, int otherForce) {
+        x.rest();
+        x.push(first, force);
+        x.push(second, otherForce);
+    }
+
+    private static void backAgain(String change, Consumer<SwingYard> changing) {
+        SwingYard x = Check.amid(35);
+        SwingYard twin = Check.amid(35);
+        CHECK.due("there is a turn to keep", x.told(6) > 0 ? 1 : 0, 1);
+        x.image(0);
+        changing.accept(x);
+        CHECK.due(change + " changes something", x.digest() != twin.digest() ? 1 : 0, 1);
+        x.from(0);
+        for (int i = 0; i < 30; i++) {
+            CHECK.due("digest() behind " + change, x.digest(), twin.digest());
+            CHECK.due("fault() behind " + change, x.fault(), twin.fault());
+            CHECK.due("tick(3) behind " + change, x.tick(3), twin.tick(3));
         }
     }
 
@@ -316,12 +339,12 @@ public final class EdgesOfImagesTest {
 
     /** 61 steps of 31 go far beyond a long: only what is left of it stays, as Java's longs do. */
     private static void digestWrapsAround() {
-        java.math.BigInteger h = java.math.BigInteger.valueOf(487);
+        BigInteger h = BigInteger.valueOf(487);
         int[] values = new int[61];
         System.arraycopy(AT_FIRST, 0, values, 0, 8);
-        java.util.Arrays.fill(values, 21, 61, -1);
+        Arrays.fill(values, 21, 61, -1);
         for (int v : values) {
-            h = h.multiply(java.math.BigInteger.valueOf(31)).add(java.math.BigInteger.valueOf(v));
+            h = h.multiply(BigInteger.valueOf(31)).add(BigInteger.valueOf(v));
         }
         CHECK.due("it is beyond a long", h.bitLength() > 64 ? 1 : 0, 1);
         CHECK.due("digest() wraps", new SwingYard().digest(), h.longValue());

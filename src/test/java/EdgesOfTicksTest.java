@@ -128,6 +128,15 @@ public final class EdgesOfTicksTest {
         tick(x, "LOSS 50 of w 19", 361 * side, -19 * side, 0, 1, 380, 1, 0, 0, 0, 0, 19 * side, 19 * side);
         x.begin(400 * side);
         tick(x, "LOSS 50 of w 20", 380 * side, -20 * side, 0, 1, 400, 1, 0, 0, 0, 0, 19 * side, 19 * side);
+        // 37 * 27 is 1 below 1000, and 40 * 25 just 1000
+        x.put(2, 27);
+        x.begin(740 * side);
+        x.tick(1);
+        CHECK.due("LOSS 27 of w 37", x.told(11), 37 * side);
+        x.put(2, 25);
+        x.begin(800 * side);
+        x.tick(1);
+        CHECK.due("LOSS 25 of w 40", x.told(11), 39 * side);
     }
 
     /** LENGTH before is of the new ROPE too: put alone leaves the speed as it is. */
@@ -352,6 +361,9 @@ public final class EdgesOfTicksTest {
 
     private static void aTurnIsSeenSinceItBegan() {
         for (int side = -1; side <= 1; side += 2) {
+            SwingYard first = Check.swing(400, 1, 0);
+            first.push(0, 5 * side);
+            tick(first, "a new one's first speed", 5 * side, 5 * side, 0, 1, 0, 1, 0);
             SwingYard x = pushed(0, 9 * side);
             tick(x, "one way", 9 * side, 9 * side, 0, 1, 0, 1, 0);
             x.rest();
