@@ -26,7 +26,7 @@ public final class RunsTest {
     }
 
     private static void peakAndGainAsReallyGone() {
-        for (int n = 1; n <= 120; n += n < 10 ? 1 : 13) {
+        for (int n = 1; n <= 110; n += n < 10 ? 1 : 13) {
             SwingYard x = Check.amid(20);
             int run = n;
             CHECK.leavesAll(x, "peak(" + n + ")", y -> y.peak(run));
