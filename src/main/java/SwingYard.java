@@ -28,7 +28,11 @@ public final class SwingYard {
     private static final int MOST_WHEN = 40;
     private static final int MOST_EACH = 12;
     private static final int ROW = 5;
+    private static final int CHOICES = 3;
     private static final int[] ROW_POSTURES = {0, 4, 9};
+    private static final int ROWS = 243;
+    // How many rows, one behind the other, have the same posture at a stage.
+    private static final int[] ROWS_ALIKE = {81, 27, 9, 3, 1};
     private static final int[] RULE_PLACES = {100000, 300000, 600000};
     private static final int MOST_RULE = 20;
     private static final int RULE_WIDTH = 50000;
@@ -46,6 +50,8 @@ public final class SwingYard {
     // Runs are tried on children of their own, so that what is asked leaves all as it is.
     private final Child trial = new Child();
     private final Child[] stages = new Child[ROW + 1];
+    // The PEAK of the row up to each stage.
+    private final int[] peaks = new int[ROW + 1];
     private final int[] row = new int[ROW];
     private final int[] bestRow = new int[ROW];
     private int bestPeak = NONE;
@@ -189,9 +195,7 @@ public final class SwingYard {
         if (!within(m, 1, MOST_EACH) || !within(what, NONE, ROW - 1)) {
             return refusedAsBad(BAD);
         }
-        bestPeak = NONE;
-        stages[0].become(now.child);
-        tryRowFrom(0, m, 0);
+        tryAllRows(m);
         return what == NONE ? bestPeak : bestRow[what];
     }
 
@@ -380,27 +384,36 @@ public final class SwingYard {
     }
 
     /** Rows that begin alike share the ticks of what they have in common, so each stage is kept. */
-    private void tryRowFrom(int stage, int m, int peakBefore) {
-        if (stage >= ROW) {
-            keepRowIfHigher(peakBefore);
-            return;
-        }
-        for (int i = 0; i < ROW_POSTURES.length; i++) {
-            Child child = stages[stage + 1];
-            child.become(stages[stage]);
-            row[stage] = ROW_POSTURES[i];
-            int greatest = peakBefore;
-            for (int passed = 0; passed < m; passed++) {
-                stepWishing(child, row[stage], 0);
-                greatest = Math.max(greatest, child.distance());
+    private void tryAllRows(int m) {
+        bestPeak = NONE;
+        stages[0].become(now.child);
+        peaks[0] = 0;
+        for (int i = 0; i < ROWS; i++) {
+            for (int stage = 0; stage < ROW; stage++) {
+                int alike = ROWS_ALIKE[stage];
+                if (alike > 0 && i % alike == 0) {
+                    row[stage] = ROW_POSTURES[i / alike % CHOICES];
+                    goThroughStage(stage, m);
+                }
             }
-            tryRowFrom(stage + 1, m, greatest);
+            keepRowIfHigher();
         }
     }
 
-    private void keepRowIfHigher(int peakOfRow) {
-        if (peakOfRow > bestPeak) {
-            bestPeak = peakOfRow;
+    private void goThroughStage(int stage, int m) {
+        Child child = stages[stage + 1];
+        child.become(stages[stage]);
+        int greatest = peaks[stage];
+        for (int passed = 0; passed < m; passed++) {
+            stepWishing(child, row[stage], 0);
+            greatest = Math.max(greatest, child.distance());
+        }
+        peaks[stage + 1] = greatest;
+    }
+
+    private void keepRowIfHigher() {
+        if (peaks[ROW] > bestPeak) {
+            bestPeak = peaks[ROW];
             System.arraycopy(row, 0, bestRow, 0, ROW);
         }
     }

@@ -1,12 +1,17 @@
 import java.io.IOException;
+import java.lang.reflect.Field;
+import java.lang.reflect.Modifier;
 import java.nio.file.Files;
 import java.nio.file.Path;
+import java.util.List;
 import java.util.regex.Matcher;
 import java.util.regex.Pattern;
 
 /** Rules of LANGUAGE.md that can be seen in the text of the class, or in what a run makes. */
 public final class LanguageTest {
     private static final Check CHECK = new Check();
+    private static final List<Class<?>> CONSTANTS = List.of(int.class, long.class, boolean.class, char.class,
+            String.class, int[].class, long[].class, char[].class, byte[].class);
 
     public static void main(String[] args) throws IOException {
         Path root = Path.of(System.getProperty("project.root", "."));
@@ -28,6 +33,8 @@ public final class LanguageTest {
                 "\\b(Random|Scanner|Thread|Object|Optional|Stream|HashMap|Map|Set|java|Collections|Runtime|Class)\\b");
         never(code, "System but for arraycopy", "\\bSystem\\.(?!arraycopy\\b)");
         methodsAreShort(code);
+        CHECK.due("private methods with a name of the face", privateNamesOfTheFace(code), 0);
+        classesAreAsTold();
         callsMakeNothing();
         CHECK.end();
     }
@@ -52,8 +59,54 @@ public final class LanguageTest {
             long lines = m.group().lines().count();
             CHECK.due("lines of " + m.group(2) + " above 60", Math.max(60, lines), 60);
             CHECK.due("parameters of " + m.group(2) + " above 7", Math.max(7, m.group(3).split(",").length), 7);
+            CHECK.due("calls itself, and is not private and static: " + m.group(2), callsItselfWrongly(m) ? 1 : 0, 0);
         }
         CHECK.due("the methods were found", methods > 60 ? 1 : 0, 1);
+    }
+
+    /** Rule 8 lets only a private static method call itself; others may call one another. */
+    private static boolean callsItselfWrongly(Matcher method) {
+        String head = method.group(2);
+        String name = head.substring(head.lastIndexOf(' ') + 1);
+        String body = method.group().substring(method.group().indexOf("{\n"));
+        boolean itself = Pattern.compile("(?<![.\\w]|new )" + name + "\\(").matcher(body).find();
+        return itself && !head.startsWith("private static ");
+    }
+
+    private static int privateNamesOfTheFace(String code) {
+        int found = 0;
+        Matcher m = Pattern.compile("\n    public (?:int|long) (\\w+)\\(").matcher(code);
+        while (m.find()) {
+            found += Pattern.compile("\\bprivate [\\w\\[\\] ]+ " + m.group(1) + "\\(").matcher(code).find() ? 1 : 0;
+        }
+        return found;
+    }
+
+    /** Rules 1, 2, 5 and 11, as far as the compiled class shows them. */
+    private static void classesAreAsTold() {
+        Class<?>[] inside = SwingYard.class.getDeclaredClasses();
+        CHECK.due("classes above 12", Math.max(12, 1 + inside.length), 12);
+        fieldsAreAsTold(SwingYard.class);
+        for (Class<?> one : inside) {
+            int modifiers = one.getModifiers();
+            CHECK.due(one + " is static", Modifier.isStatic(modifiers) ? 1 : 0, 1);
+            CHECK.due(one + " is seen from outside", modifiers & (Modifier.PUBLIC | Modifier.PROTECTED), 0);
+            CHECK.due("classes inside " + one, one.getDeclaredClasses().length, 0);
+            fieldsAreAsTold(one);
+        }
+    }
+
+    private static void fieldsAreAsTold(Class<?> one) {
+        int own = 0;
+        for (Field f : one.getDeclaredFields()) {
+            boolean constant = Modifier.isStatic(f.getModifiers());
+            own += constant ? 0 : 1;
+            if (constant) {
+                CHECK.due(f + " is final", Modifier.isFinal(f.getModifiers()) ? 1 : 0, 1);
+                CHECK.due(f + " is of a type for constants", CONSTANTS.contains(f.getType()) ? 1 : 0, 1);
+            }
+        }
+        CHECK.due("fields of " + one + " above 20", Math.max(20, own), 20);
     }
 
     /** All rows are made with the object: 512 of the dearest calls make next to nothing more. */
