@@ -50,7 +50,7 @@ public final class SwingYard {
     // Runs are tried on children of their own, so that what is asked leaves all as it is.
     private final Child trial = new Child();
     private final Child[] stages = new Child[ROW + 1];
-    // The PEAK of the row up to each stage.
+    // The PEAK of the row ahead of each stage (of the first: 0), and of all of it.
     private final int[] peaks = new int[ROW + 1];
     private final int[] row = new int[ROW];
     private final int[] bestRow = new int[ROW];
@@ -387,7 +387,6 @@ public final class SwingYard {
     private void tryAllRows(int m) {
         bestPeak = NONE;
         stages[0].become(now.child);
-        peaks[0] = 0;
         for (int i = 0; i < ROWS; i++) {
             for (int stage = 0; stage < ROW; stage++) {
                 int alike = ROWS_ALIKE[stage];
